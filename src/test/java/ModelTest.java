@@ -84,7 +84,7 @@ public final class ModelTest {
             }
             if (pair && model.q < 100 && random.nextInt(2) == 0) {
                 int moved = random.nextInt(model.q);
-                with[1] = Math.floorMod(with[1], model.q) - moved * model.log();
+                with[1] = Math.floorMod(with[1], model.q) - moved * model.log;
                 with[2] = Math.floorMod(with[2], model.q) + moved;
             }
         }
@@ -152,12 +152,14 @@ public final class ModelTest {
         List<Integer> complained;
         List<int[]> answers;
         List<int[]> laid;
-        private int log = -1;
+        /** The power of g that h is; 0 in groups too large to try. */
+        final int log;
 
         Model(int[] group) {
             this.group = group;
             p = group[0];
             q = group[1];
+            log = q < 100 ? Numbers.log(group) : 0;
         }
 
         long call(String name, int[] w) {
@@ -233,7 +235,7 @@ public final class ModelTest {
             if (stage == 1) {
                 published = new int[t];
                 for (int k = 0; k < t; k++) {
-                    published[k] = commit(a[k], b[k]);
+                    published[k] = Numbers.commit(group, a[k], b[k]);
                 }
                 shares = new int[n + 1][];
                 for (int i = 1; i <= n; i++) {
@@ -341,41 +343,19 @@ public final class ModelTest {
         }
 
         private boolean fits(int i, int[] pair) {
-            BigInteger product = BigInteger.ONE;
-            for (int k = 0; k < t; k++) {
-                product = product.multiply(big(published[k]).modPow(big(i).pow(k), big(p))).mod(big(p));
-            }
-            return product.intValueExact() == commit(pair[0], pair[1]);
-        }
-
-        private int commit(int u, int v) {
-            BigInteger first = big(group[2]).modPow(big(u), big(p));
-            BigInteger second = big(group[3]).modPow(big(v), big(p));
-            return first.multiply(second).mod(big(p)).intValueExact();
+            return Numbers.commit(group, pair[0], pair[1]) == Numbers.productAt(i, published, p);
         }
 
         int value(int[] coefficients, int i) {
-            BigInteger sum = BigInteger.ZERO;
-            for (int k = 0; k < t; k++) {
-                sum = sum.add(big(coefficients[k]).multiply(big(i).pow(k)));
-            }
-            return sum.mod(big(q)).intValueExact();
-        }
-
-        /** The power of g that h is; asked for in small groups alone. */
-        int log() {
-            while (log < 0 || commit(log, 0) != group[3]) {
-                log++;
-            }
-            return log;
+            return Numbers.valueAt(i, coefficients, q);
         }
 
         private int mod(int x) {
-            return big(x).mod(big(q)).intValueExact();
+            return Numbers.modulo(x, q);
         }
 
         private static BigInteger big(int x) {
-            return BigInteger.valueOf(x);
+            return Numbers.big(x);
         }
     }
 }

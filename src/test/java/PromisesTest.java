@@ -1,19 +1,7 @@
-import java.util.NoSuchElementException;
-import java.util.function.Consumer;
-
-/**
- * Each promise of the document by itself. Most deals are in the group p 23, q 11, g 4, h 9, where h is
- * g^8, so a pair (u, v) fits participant i just when u + 8 v is what i's own share gives, modulo 11.
- * The usual deal of three with threshold 2 has a = 7, 3 and b = 2, 5: commitments 4 and 6, and shares
- * (10, 7), (2, 1), (5, 6), for which u + 8 v is 0, 10, 9. No object is used for more than 512 calls.
- */
+/** Each promise of the document by itself. No object is used for more than 512 calls. */
 public final class PromisesTest {
-    private static final Class<IllegalStateException> STATE = IllegalStateException.class;
-    private static final Class<IllegalArgumentException> ARGUMENT = IllegalArgumentException.class;
-    private static final Class<NoSuchElementException> MISSING = NoSuchElementException.class;
-
-    private static final int[] NO_PARTICIPANT = {0, 4, -1, 7, 8, Integer.MIN_VALUE, Integer.MAX_VALUE};
-    private static final int[] NO_COEFFICIENT = {2, -1, 3, 7, Integer.MIN_VALUE, Integer.MAX_VALUE};
+    private static final int[] NO_PARTICIPANT = {0, 4, -1, 7, 8, Deals.LEAST, Deals.GREATEST};
+    private static final int[] NO_COEFFICIENT = {2, -1, 3, 7, Deals.LEAST, Deals.GREATEST};
 
     public static void main(String[] args) {
         newObject();
@@ -38,68 +26,8 @@ public final class PromisesTest {
         Checks.end("PromisesTest");
     }
 
-    private static DealtSecret small() {
-        return new DealtSecret(23, 11, 4, 9);
-    }
-
-    /** The usual deal, brought to a stage without cheating; 6 by a share that is never answered. */
-    private static DealtSecret usualAt(int stage, boolean blind) {
-        DealtSecret x = small();
-        if (stage == 0) {
-            return x;
-        }
-        x.begin(3, 2, blind);
-        x.coefficient(0, 7, 2);
-        x.coefficient(1, 3, 5);
-        while (x.stage() < stage && x.stage() < 5) {
-            x.advance();
-            if (x.stage() == 2 && stage == 6) {
-                x.tamper(1, 0, 1);
-            }
-        }
-        Checks.same("the stage that was wanted", x.stage(), stage);
-        return x;
-    }
-
-    private static DealtSecret usualAt(int stage) {
-        return usualAt(stage, true);
-    }
-
-    /** All that can be asked without changing anything. */
-    private static String seen(DealtSecret x) {
-        StringBuilder text = new StringBuilder();
-        text.append(x.stage()).append(' ').append(x.complaints()).append(' ').append(x.opened());
-        for (int i = -1; i <= 8; i++) {
-            text.append(" | ").append(x.group(i)).append(' ').append(x.commitment(i)).append(' ');
-            text.append(x.share(i, 0)).append(' ').append(x.share(i, 1)).append(' ').append(x.fits(i));
-        }
-        try {
-            text.append(" secret ").append(x.secret());
-        } catch (RuntimeException e) {
-            text.append(" no secret ").append(e.getClass());
-        }
-        try {
-            text.append(" relation ").append(x.relation());
-        } catch (RuntimeException e) {
-            text.append(" no relation ").append(e.getClass());
-        }
-        return text.toString();
-    }
-
-    private static void refused(DealtSecret x, String what, Class<? extends RuntimeException> due, Runnable call) {
-        String before = seen(x);
-        Checks.refused(what + " in stage " + x.stage(), due, call);
-        Checks.yes(what + " changes nothing", seen(x).equals(before));
-    }
-
-    private static void refusedAt(int stage, String what, Class<? extends RuntimeException> due,
-            Consumer<DealtSecret> call) {
-        DealtSecret x = usualAt(stage);
-        refused(x, what, due, () -> call.accept(x));
-    }
-
     private static void newObject() {
-        DealtSecret x = small();
+        DealtSecret x = Deals.small();
         Checks.same("stage of a new object", x.stage(), 0);
         Checks.same("complaints of a new object", x.complaints(), 0);
         Checks.same("opened of a new object", x.opened(), 0);
@@ -109,7 +37,7 @@ public final class PromisesTest {
             Checks.same("share of a new object", x.share(i, 1), -1);
             Checks.no("fits of a new object", x.fits(i));
         }
-        DealtSecret other = usualAt(2);
+        DealtSecret other = Deals.usualAt(2);
         Checks.same("another object's stage", other.stage(), 2);
         Checks.same("objects are apart", x.stage(), 0);
     }
@@ -120,7 +48,7 @@ public final class PromisesTest {
         Checks.same(name + "1", x.group(1), q);
         Checks.same(name + "2", x.group(2), g);
         Checks.same(name + "3", x.group(3), h);
-        for (int what : new int[] {-1, 4, 5, Integer.MIN_VALUE, Integer.MAX_VALUE}) {
+        for (int what : new int[] {-1, 4, 5, Deals.LEAST, Deals.GREATEST}) {
             Checks.same(name + what, x.group(what), 0);
         }
     }
@@ -145,8 +73,8 @@ public final class PromisesTest {
             {23, 11, 1, 9}, {23, 11, 4, 1}, {23, 11, 0, 9}, {23, 11, 4, 0}, {23, 11, 23, 9}, {23, 11, 4, 23},
             {23, 11, 27, 9}, {23, 11, 4, 32}, {23, 11, 24, 9}, {23, 11, 4, 24}, {23, 11, -19, 9}, {23, 11, 4, -14},
             {23, -11, 4, 9}, {-23, 11, 4, 9}, {23, 0, 4, 9}, {0, 11, 4, 9}, {0, 0, 0, 0}, {1, 1, 1, 1}, {1, 5, 4, 9},
-            {-1, -1, -1, -1}, {Integer.MIN_VALUE, 11, 4, 9}, {23, Integer.MIN_VALUE, 4, 9}, {Integer.MIN_VALUE, -1, 4, 9},
-            {Integer.MAX_VALUE, Integer.MAX_VALUE, Integer.MAX_VALUE, Integer.MIN_VALUE}, {15, 7, 2, 4}, {25, 3, 4, 9},
+            {-1, -1, -1, -1}, {Deals.LEAST, 11, 4, 9}, {23, Deals.LEAST, 4, 9}, {Deals.LEAST, -1, 4, 9},
+            {Deals.GREATEST, Deals.GREATEST, Deals.GREATEST, Deals.LEAST}, {15, 7, 2, 4}, {25, 3, 4, 9},
         };
         for (int[] s : unsound) {
             checkGroup(new DealtSecret(s[0], s[1], s[2], s[3]), 2039, 1019, 4, 9);
@@ -156,7 +84,7 @@ public final class PromisesTest {
     private static void begin() {
         for (int n = 1; n <= 7; n++) {
             for (int t = 1; t <= n; t++) {
-                DealtSecret x = small();
+                DealtSecret x = Deals.small();
                 x.begin(n, t, t % 2 == 0);
                 Checks.same("stage after begin", x.stage(), 1);
                 x.advance();
@@ -166,11 +94,11 @@ public final class PromisesTest {
                 }
             }
         }
-        int[][] wrong = {{0, 0}, {0, 1}, {-1, 1}, {8, 1}, {8, 8}, {3, 0}, {3, 4}, {3, -1}, {7, 8}, {Integer.MIN_VALUE, 1},
-            {Integer.MAX_VALUE, 1}, {3, Integer.MIN_VALUE}, {3, Integer.MAX_VALUE}};
+        int[][] wrong = {{0, 0}, {0, 1}, {-1, 1}, {8, 1}, {8, 8}, {3, 0}, {3, 4}, {3, -1}, {7, 8}, {Deals.LEAST, 1},
+            {Deals.GREATEST, 1}, {3, Deals.LEAST}, {3, Deals.GREATEST}};
         for (int stage = 0; stage <= 6; stage++) {
             for (int[] w : wrong) {
-                refusedAt(stage, "begin " + w[0] + " " + w[1], ARGUMENT, x -> x.begin(w[0], w[1], false));
+                Deals.refusedAt(stage, "begin " + w[0] + " " + w[1], Deals.ARGUMENT, x -> x.begin(w[0], w[1], false));
             }
         }
         beginInSmallGroup(7, 3, 2, 4);
@@ -186,14 +114,14 @@ public final class PromisesTest {
                 x.begin(n, 1, true);
                 Checks.same("stage after begin", x.stage(), 1);
             } else {
-                refused(x, "begin " + n + " with q " + q, ARGUMENT, () -> x.begin(count, 1, true));
+                Deals.refused(x, "begin " + n + " with q " + q, Deals.ARGUMENT, () -> x.begin(count, 1, true));
             }
         }
     }
 
     private static void beginAnew() {
         for (int stage = 1; stage <= 6; stage++) {
-            DealtSecret x = usualAt(stage);
+            DealtSecret x = Deals.usualAt(stage);
             if (stage <= 2) {
                 x.corrupt(1);
             }
@@ -203,9 +131,9 @@ public final class PromisesTest {
                 x.open(2);
             }
             x.begin(3, 2, true);
-            DealtSecret untouched = small();
+            DealtSecret untouched = Deals.small();
             untouched.begin(3, 2, true);
-            Checks.yes("a deal begun anew from stage " + stage, seen(x).equals(seen(untouched)));
+            Checks.yes("a deal begun anew from stage " + stage, Deals.seen(x).equals(Deals.seen(untouched)));
             Checks.yes("nobody is corrupt", x.corrupt(1));
             x.begin(3, 2, true);
             x.advance();
@@ -220,7 +148,7 @@ public final class PromisesTest {
     }
 
     private static void answersAreForgotten() {
-        DealtSecret x = usualAt(2);
+        DealtSecret x = Deals.usualAt(2);
         x.tamper(1, 1, 1);
         x.advance();
         x.advance();
@@ -234,7 +162,7 @@ public final class PromisesTest {
     }
 
     private static void openingsAreForgotten() {
-        DealtSecret x = usualAt(5);
+        DealtSecret x = Deals.usualAt(5);
         x.open(1);
         x.open(2);
         x.show(1, 0, 0);
@@ -244,17 +172,17 @@ public final class PromisesTest {
             x.advance();
         }
         Checks.same("opened anew", x.opened(), 0);
-        refused(x, "relation", MISSING, x::relation);
-        refused(x, "secret", MISSING, x::secret);
+        Deals.refused(x, "relation", Deals.MISSING, x::relation);
+        Deals.refused(x, "secret", Deals.MISSING, x::secret);
     }
 
     private static void coefficient() {
         for (int stage = 0; stage <= 6; stage++) {
             if (stage != 1) {
-                refusedAt(stage, "coefficient", STATE, x -> x.coefficient(0, 1, 1));
+                Deals.refusedAt(stage, "coefficient", Deals.STATE, x -> x.coefficient(0, 1, 1));
             }
             for (int k : NO_COEFFICIENT) {
-                refusedAt(stage, "coefficient " + k, stage == 1 ? ARGUMENT : STATE, x -> x.coefficient(k, 1, 1));
+                Deals.refusedAt(stage, "coefficient " + k, stage == 1 ? Deals.ARGUMENT : Deals.STATE, x -> x.coefficient(k, 1, 1));
             }
         }
         checkCoefficients(true, 7, 2, 3, 5);
@@ -262,16 +190,16 @@ public final class PromisesTest {
         checkCoefficients(true, 7 - 11 * 1000, 2 + 11 * 1000, 3 + 11 * 77, 5 - 11 * 77);
         checkCoefficients(false, 7, 2, 3, 5);
         checkCoefficients(false, -4, 0, 14, -1);
-        DealtSecret x = small();
+        DealtSecret x = Deals.small();
         x.begin(1, 1, true);
-        x.coefficient(0, Integer.MIN_VALUE, Integer.MAX_VALUE);
+        x.coefficient(0, Deals.LEAST, Deals.GREATEST);
         x.advance();
         Checks.same("the least int modulo 11", x.share(1, 0), 9);
         Checks.same("the greatest int modulo 11", x.share(1, 1), 1);
     }
 
     private static void checkCoefficients(boolean blind, int a0, int b0, int a1, int b1) {
-        DealtSecret x = small();
+        DealtSecret x = Deals.small();
         x.begin(3, 2, blind);
         x.coefficient(0, 1, 1);
         x.coefficient(0, a0, b0);
@@ -287,16 +215,16 @@ public final class PromisesTest {
     }
 
     private static void advance() {
-        DealtSecret x = usualAt(1);
+        DealtSecret x = Deals.usualAt(1);
         for (int stage = 2; stage <= 5; stage++) {
             Checks.same("advance", x.advance(), stage);
             Checks.same("stage", x.stage(), stage);
         }
         for (int stage : new int[] {0, 5, 6}) {
-            DealtSecret y = usualAt(stage);
-            refused(y, "advance", STATE, y::advance);
+            DealtSecret y = Deals.usualAt(stage);
+            Deals.refused(y, "advance", Deals.STATE, y::advance);
         }
-        DealtSecret y = usualAt(2);
+        DealtSecret y = Deals.usualAt(2);
         y.corrupt(1);
         y.tamper(1, 1, 1);
         y.tamper(2, 1, 1);
@@ -313,7 +241,7 @@ public final class PromisesTest {
     private static void advanceToDisqualified() {
         for (int t = 1; t <= 4; t++) {
             for (int bad = 0; bad <= 4; bad++) {
-                DealtSecret x = small();
+                DealtSecret x = Deals.small();
                 x.begin(4, t, false);
                 x.advance();
                 for (int i = 1; i <= bad; i++) {
@@ -324,7 +252,7 @@ public final class PromisesTest {
                 Checks.same(bad + " complaints with t " + t, x.advance(), bad >= t ? 6 : 4);
             }
         }
-        DealtSecret x = usualAt(2);
+        DealtSecret x = Deals.usualAt(2);
         x.tamper(2, 1, 1);
         x.advance();
         x.advance();
@@ -335,7 +263,7 @@ public final class PromisesTest {
     }
 
     private static void groundlessComplaint() {
-        DealtSecret x = usualAt(2);
+        DealtSecret x = Deals.usualAt(2);
         x.corrupt(3);
         x.advance();
         Checks.yes("accuse", x.accuse(3));
@@ -347,13 +275,13 @@ public final class PromisesTest {
     private static void tamper() {
         for (int stage = 0; stage <= 6; stage++) {
             if (stage != 2) {
-                refusedAt(stage, "tamper", STATE, x -> x.tamper(1, 1, 1));
+                Deals.refusedAt(stage, "tamper", Deals.STATE, x -> x.tamper(1, 1, 1));
             }
             for (int i : NO_PARTICIPANT) {
-                refusedAt(stage, "tamper " + i, stage == 2 ? ARGUMENT : STATE, x -> x.tamper(i, 1, 1));
+                Deals.refusedAt(stage, "tamper " + i, stage == 2 ? Deals.ARGUMENT : Deals.STATE, x -> x.tamper(i, 1, 1));
             }
         }
-        DealtSecret x = usualAt(2);
+        DealtSecret x = Deals.usualAt(2);
         x.tamper(2, -1, 25);
         checkShare(x, 2, 10, 3, false);
         checkShare(x, 1, 10, 7, true);
@@ -362,7 +290,7 @@ public final class PromisesTest {
         checkShare(x, 2, 2, 1, true);
         x.tamper(3, 9, 11);
         checkShare(x, 3, 9, 0, true);
-        DealtSecret y = usualAt(2, false);
+        DealtSecret y = Deals.usualAt(2, false);
         y.tamper(1, 10, 7);
         checkShare(y, 1, 10, 0, true);
     }
@@ -370,22 +298,22 @@ public final class PromisesTest {
     private static void checkShare(DealtSecret x, int i, int u, int v, boolean fits) {
         Checks.same("first number of " + i, x.share(i, 0), u);
         Checks.same("second number of " + i, x.share(i, 1), v);
-        Checks.same("fits of " + i, x.fits(i) ? 1 : 0, fits ? 1 : 0);
+        Checks.same("fits of " + i, x.fits(i), fits);
     }
 
     private static void forge() {
         for (int stage = 0; stage <= 6; stage++) {
             if (stage != 2) {
-                refusedAt(stage, "forge", STATE, x -> x.forge(0, 1));
+                Deals.refusedAt(stage, "forge", Deals.STATE, x -> x.forge(0, 1));
             }
             for (int k : NO_COEFFICIENT) {
-                refusedAt(stage, "forge " + k, stage == 2 ? ARGUMENT : STATE, x -> x.forge(k, 1));
+                Deals.refusedAt(stage, "forge " + k, stage == 2 ? Deals.ARGUMENT : Deals.STATE, x -> x.forge(k, 1));
             }
-            for (int c : new int[] {0, 23, -1, 24, Integer.MIN_VALUE, Integer.MAX_VALUE}) {
-                refusedAt(stage, "forge to " + c, stage == 2 ? ARGUMENT : STATE, x -> x.forge(0, c));
+            for (int c : new int[] {0, 23, -1, 24, Deals.LEAST, Deals.GREATEST}) {
+                Deals.refusedAt(stage, "forge to " + c, stage == 2 ? Deals.ARGUMENT : Deals.STATE, x -> x.forge(0, c));
             }
         }
-        DealtSecret x = usualAt(2);
+        DealtSecret x = Deals.usualAt(2);
         x.forge(0, 22);
         x.forge(1, 1);
         Checks.same("c(0) forged", x.commitment(0), 22);
@@ -406,12 +334,12 @@ public final class PromisesTest {
         x.advance();
         x.forge(3, 66);
         for (int i = 1; i <= 7; i++) {
-            Checks.same("66^(i^3) is 1 for i = " + i, x.fits(i) ? 1 : 0, i % 2 == 0 ? 1 : 0);
+            Checks.same("66^(i^3) is 1 for i = " + i, x.fits(i), i % 2 == 0);
         }
         x.forge(3, 1);
         x.forge(2, 66);
         for (int i = 1; i <= 7; i++) {
-            Checks.same("66^(i^2) is 1 for i = " + i, x.fits(i) ? 1 : 0, i % 2 == 0 ? 1 : 0);
+            Checks.same("66^(i^2) is 1 for i = " + i, x.fits(i), i % 2 == 0);
         }
     }
 
@@ -419,18 +347,18 @@ public final class PromisesTest {
         for (int stage = 0; stage <= 6; stage++) {
             boolean right = stage == 1 || stage == 2;
             for (int i : NO_PARTICIPANT) {
-                refusedAt(stage, "corrupt " + i, right ? ARGUMENT : STATE, x -> x.corrupt(i));
+                Deals.refusedAt(stage, "corrupt " + i, right ? Deals.ARGUMENT : Deals.STATE, x -> x.corrupt(i));
             }
             if (right) {
-                DealtSecret x = usualAt(stage);
+                DealtSecret x = Deals.usualAt(stage);
                 Checks.yes("corrupt", x.corrupt(2));
                 Checks.no("corrupt again", x.corrupt(2));
                 Checks.yes("corrupt another", x.corrupt(3));
             } else {
-                refusedAt(stage, "corrupt", STATE, x -> x.corrupt(2));
+                Deals.refusedAt(stage, "corrupt", Deals.STATE, x -> x.corrupt(2));
             }
         }
-        DealtSecret x = usualAt(1);
+        DealtSecret x = Deals.usualAt(1);
         x.corrupt(2);
         x.advance();
         Checks.no("corrupt still", x.corrupt(2));
@@ -442,13 +370,13 @@ public final class PromisesTest {
     private static void accuse() {
         for (int stage = 0; stage <= 6; stage++) {
             if (stage != 3) {
-                refusedAt(stage, "accuse", STATE, x -> x.accuse(1));
+                Deals.refusedAt(stage, "accuse", Deals.STATE, x -> x.accuse(1));
             }
             for (int i : NO_PARTICIPANT) {
-                refusedAt(stage, "accuse " + i, stage == 3 ? ARGUMENT : STATE, x -> x.accuse(i));
+                Deals.refusedAt(stage, "accuse " + i, stage == 3 ? Deals.ARGUMENT : Deals.STATE, x -> x.accuse(i));
             }
         }
-        DealtSecret x = usualAt(2);
+        DealtSecret x = Deals.usualAt(2);
         x.corrupt(1);
         x.tamper(2, 0, 0);
         x.advance();
@@ -463,9 +391,9 @@ public final class PromisesTest {
 
     private static void answer() {
         for (int stage = 0; stage <= 6; stage++) {
-            refusedAt(stage, "answer", stage == 4 ? MISSING : STATE, x -> x.answer(2, 2, 1));
+            Deals.refusedAt(stage, "answer", stage == 4 ? Deals.MISSING : Deals.STATE, x -> x.answer(2, 2, 1));
             for (int i : NO_PARTICIPANT) {
-                refusedAt(stage, "answer " + i, stage == 4 ? ARGUMENT : STATE, x -> x.answer(i, 1, 1));
+                Deals.refusedAt(stage, "answer " + i, stage == 4 ? Deals.ARGUMENT : Deals.STATE, x -> x.answer(i, 1, 1));
             }
         }
         DealtSecret x = answering(true);
@@ -475,7 +403,7 @@ public final class PromisesTest {
         checkShare(x, 2, 2, 1, true);
         Checks.yes("another pair that fits", x.answer(2, -1, 22));
         checkShare(x, 2, 10, 0, true);
-        refused(x, "answer to no complaint", MISSING, () -> x.answer(3, 5, 6));
+        Deals.refused(x, "answer to no complaint", Deals.MISSING, () -> x.answer(3, 5, 6));
         Checks.same("answered", x.advance(), 5);
         Checks.yes("the answer is laid open", x.open(2));
         x.open(1);
@@ -494,7 +422,7 @@ public final class PromisesTest {
 
     /** The usual deal, with a complaint of participant 2. */
     private static DealtSecret answering(boolean blind) {
-        DealtSecret x = usualAt(2, blind);
+        DealtSecret x = Deals.usualAt(2, blind);
         x.tamper(2, 9, 9);
         x.advance();
         Checks.same("advance", x.advance(), 4);
@@ -504,13 +432,13 @@ public final class PromisesTest {
     private static void open() {
         for (int stage = 0; stage <= 6; stage++) {
             if (stage != 5) {
-                refusedAt(stage, "open", STATE, x -> x.open(1));
+                Deals.refusedAt(stage, "open", Deals.STATE, x -> x.open(1));
             }
             for (int i : NO_PARTICIPANT) {
-                refusedAt(stage, "open " + i, stage == 5 ? ARGUMENT : STATE, x -> x.open(i));
+                Deals.refusedAt(stage, "open " + i, stage == 5 ? Deals.ARGUMENT : Deals.STATE, x -> x.open(i));
             }
         }
-        DealtSecret x = usualAt(2);
+        DealtSecret x = Deals.usualAt(2);
         x.corrupt(2);
         x.tamper(2, 9, 9);
         x.advance();
@@ -524,28 +452,28 @@ public final class PromisesTest {
         Checks.yes("open", x.open(3));
         Checks.same("opened", x.opened(), 2);
         Checks.same("secret", x.secret(), 7);
-        refused(x, "relation by the same pair twice", MISSING, x::relation);
+        Deals.refused(x, "relation by the same pair twice", Deals.MISSING, x::relation);
     }
 
     private static void show() {
         for (int stage = 0; stage <= 6; stage++) {
             if (stage != 5) {
-                refusedAt(stage, "show", STATE, x -> x.show(1, 10, 7));
+                Deals.refusedAt(stage, "show", Deals.STATE, x -> x.show(1, 10, 7));
             }
             for (int i : NO_PARTICIPANT) {
-                refusedAt(stage, "show " + i, stage == 5 ? ARGUMENT : STATE, x -> x.show(i, 10, 7));
+                Deals.refusedAt(stage, "show " + i, stage == 5 ? Deals.ARGUMENT : Deals.STATE, x -> x.show(i, 10, 7));
             }
         }
         for (int u = -11; u < 22; u++) {
-            DealtSecret x = usualAt(5);
+            DealtSecret x = Deals.usualAt(5);
             for (int v = -11; v < 22; v++) {
                 boolean fits = Math.floorMod(u + 8 * v, 11) == 9;
-                Checks.same("show 3 " + u + " " + v, x.show(3, u, v) ? 1 : 0, fits ? 1 : 0);
+                Checks.same("show 3 " + u + " " + v, x.show(3, u, v), fits);
             }
             Checks.same("opened", x.opened(), 1);
             checkShare(x, 3, 5, 6, true);
         }
-        DealtSecret y = usualAt(5, false);
+        DealtSecret y = Deals.usualAt(5, false);
         Checks.no("v is as told, also if the deal is not blind", y.show(1, 10, 1));
         Checks.yes("show with v 1", y.show(1, 2, 1));
         Checks.yes("open with v 0", y.open(1));
@@ -554,7 +482,7 @@ public final class PromisesTest {
 
     private static void secret() {
         for (int stage = 0; stage <= 6; stage++) {
-            refusedAt(stage, "secret", stage == 5 ? MISSING : STATE, DealtSecret::secret);
+            Deals.refusedAt(stage, "secret", stage == 5 ? Deals.MISSING : Deals.STATE, DealtSecret::secret);
         }
         for (int t = 1; t <= 7; t++) {
             for (int chosen = 0; chosen < 128; chosen++) {
@@ -580,14 +508,14 @@ public final class PromisesTest {
         }
         Checks.same("opened", x.opened(), Integer.bitCount(chosen));
         if (Integer.bitCount(chosen) < t) {
-            refused(x, "secret", MISSING, x::secret);
+            Deals.refused(x, "secret", Deals.MISSING, x::secret);
         } else {
             Checks.same("secret of " + chosen + " with t " + t, x.secret(), 1073741788);
         }
     }
 
     private static void keptPairsMakeTheSecret() {
-        DealtSecret x = usualAt(5);
+        DealtSecret x = Deals.usualAt(5);
         x.open(3);
         x.open(2);
         Checks.same("of 2 and 3", x.secret(), 7);
@@ -603,25 +531,25 @@ public final class PromisesTest {
 
     private static void relation() {
         for (int stage = 0; stage <= 6; stage++) {
-            refusedAt(stage, "relation", stage == 5 ? MISSING : STATE, DealtSecret::relation);
+            Deals.refusedAt(stage, "relation", stage == 5 ? Deals.MISSING : Deals.STATE, DealtSecret::relation);
         }
-        DealtSecret x = usualAt(5);
+        DealtSecret x = Deals.usualAt(5);
         x.open(1);
         x.open(2);
         Checks.no("a bad pair", x.show(1, 1, 0));
-        refused(x, "relation by two participants", MISSING, x::relation);
+        Deals.refused(x, "relation by two participants", Deals.MISSING, x::relation);
         Checks.yes("another pair of 2", x.show(2, 10, 0));
         Checks.same("relation", x.relation(), 8);
         Checks.yes("another pair of 1", x.show(1, 0, 0));
         Checks.yes("the first of 3", x.open(3));
         Checks.same("relation", x.relation(), 8);
         for (int u = 0; u < 11; u++) {
-            DealtSecret y = usualAt(5);
+            DealtSecret y = Deals.usualAt(5);
             y.open(1);
             int v = Math.floorMod(-u * 7, 11);
             Checks.yes("a pair of 1 with u + 8 v = 0", y.show(1, u, v));
             if (v == 7) {
-                refused(y, "relation", MISSING, y::relation);
+                Deals.refused(y, "relation", Deals.MISSING, y::relation);
             } else {
                 Checks.same("relation by " + u + " " + v, y.relation(), 8);
             }
@@ -648,7 +576,7 @@ public final class PromisesTest {
 
     private static void commitmentShareAndFits() {
         for (int stage = 0; stage <= 6; stage++) {
-            DealtSecret x = usualAt(stage);
+            DealtSecret x = Deals.usualAt(stage);
             boolean dealt = stage >= 2;
             Checks.same("c(0)", x.commitment(0), dealt ? 4 : 0);
             Checks.same("c(1)", x.commitment(1), dealt ? 6 : 0);
@@ -657,20 +585,20 @@ public final class PromisesTest {
             }
             Checks.same("share 3 0", x.share(3, 0), dealt ? 5 : -1);
             Checks.same("share 3 1", x.share(3, 1), dealt ? 6 : -1);
-            Checks.same("fits 3", x.fits(3) ? 1 : 0, dealt ? 1 : 0);
+            Checks.same("fits 3", x.fits(3), dealt);
             for (int i : NO_PARTICIPANT) {
                 Checks.same("share " + i, x.share(i, 0), -1);
                 Checks.same("share " + i, x.share(i, 1), -1);
                 Checks.no("fits " + i, x.fits(i));
             }
-            for (int what : new int[] {-1, 2, 3, Integer.MIN_VALUE, Integer.MAX_VALUE}) {
+            for (int what : new int[] {-1, 2, 3, Deals.LEAST, Deals.GREATEST}) {
                 Checks.same("share 3 " + what, x.share(3, what), -1);
             }
         }
     }
 
     private static void counts() {
-        DealtSecret x = usualAt(2);
+        DealtSecret x = Deals.usualAt(2);
         x.corrupt(1);
         x.tamper(2, 0, 0);
         Checks.same("nobody complains yet", x.complaints(), 0);
