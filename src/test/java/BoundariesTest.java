@@ -1,11 +1,12 @@
 /**
  * The sentences of the promises that name a boundary, each on both sides of it and at the ends of int.
- * RefusalsTest has each call in the stages in which it is refused, TermsTest the sentences of "Terms".
+ * RefusalsTest has each call in the stages in which it is refused, GroupTest and TermsTest the sentences of
+ * "Terms".
  */
 public final class BoundariesTest {
     private static final int CALLS = 512;
-    private static final int[][] BY_Q = {{7, 3, 2, 4}, {11, 5, 3, 4}, {71, 7, 20, 30}, {2147483647, 7, 894255406, 1205362885},
-        {23, 11, 4, 9}, {67, 11, 64, 59}};
+    private static final int[][] BY_Q = {Deals.LEAST_GROUP, {11, 5, 3, 4}, {71, 7, 20, 30},
+        {2147483647, 7, 894255406, 1205362885}, Deals.SMALL, {67, 11, 64, 59}};
 
     public static void main(String[] args) {
         newObject();
@@ -63,7 +64,7 @@ public final class BoundariesTest {
 
     private static void newObject() {
         Checks.about("Promise 1: Stage 0, no deal");
-        for (int[] group : new int[][] {{23, 11, 4, 9}, {7, 3, 2, 4}, {0, 0, 0, 0}, {2147483579, 1073741789, 4, 9}}) {
+        for (int[] group : new int[][] {Deals.SMALL, Deals.LEAST_GROUP, {0, 0, 0, 0}, Deals.GREATEST_Q}) {
             DealtSecret x = Deals.in(group);
             Checks.same("stage", x.stage(), 0);
             Checks.same("complaints", x.complaints(), 0);
@@ -82,7 +83,7 @@ public final class BoundariesTest {
 
     private static void groupKinds() {
         Checks.about("Promise 2: 0 p, 1 q, 2 g, 3 h. 0 for another");
-        int[] told = {23, 11, 4, 9};
+        int[] told = Deals.SMALL;
         for (int stage = 0; stage <= 6; stage++) {
             DealtSecret x = Deals.usualAt(stage);
             for (int what = 0; what <= 3; what++) {
@@ -146,7 +147,7 @@ public final class BoundariesTest {
             for (boolean blind : new boolean[] {true, false}) {
                 DealtSecret x = Deals.usualAt(stage, !blind);
                 x.begin(5, 4, blind);
-                String fresh = Deals.seen(begunWith(new int[] {23, 11, 4, 9}, 5, 4, blind));
+                String fresh = Deals.seen(begunWith(Deals.SMALL, 5, 4, blind));
                 Checks.same("begun in stage " + stage, Deals.seen(x), fresh);
                 Checks.same("stage", x.stage(), 1);
                 x.coefficient(3, 1, 1);
@@ -169,7 +170,7 @@ public final class BoundariesTest {
             x.coefficient(n - 1, 1, 1);
             x.advance();
             Checks.same("the highest coefficient alone: 1 at 1", x.share(1, 0), 1);
-            Checks.same("and the same for all", x.commitment(n - 1), Numbers.commit(new int[] {23, 11, 4, 9}, 1, 1));
+            Checks.same("and the same for all", x.commitment(n - 1), Numbers.commit(Deals.SMALL, 1, 1));
             for (int k = 0; k < n - 1; k++) {
                 Checks.same("the lower are 0", x.commitment(k), 1);
             }
@@ -266,7 +267,7 @@ public final class BoundariesTest {
             x.advance();
             for (int other = 0; other < 7; other++) {
                 Checks.same("c(" + other + ")", x.commitment(other),
-                        other == k ? Numbers.commit(new int[] {23, 11, 4, 9}, 3, 4) : 1);
+                        other == k ? Numbers.commit(Deals.SMALL, 3, 4) : 1);
             }
         }
         DealtSecret x = Deals.zerosAt(1, 1, 1);
@@ -322,7 +323,7 @@ public final class BoundariesTest {
     }
 
     private static void tamperTwice() {
-        Checks.about("Promise 6: The share that participant i got is (u, v) instead, modulo q (v is 0 if the deal is not blind)");
+        Checks.about("Promise 6: (u, v) instead, modulo q (v is 0 if the deal is not blind)");
         for (boolean blind : new boolean[] {true, false}) {
             for (int i = 1; i <= 3; i++) {
                 DealtSecret x = Deals.usualAt(2, blind);
@@ -351,8 +352,7 @@ public final class BoundariesTest {
 
     private static void forgeElements() {
         Checks.about("Promise 7: x not 1 .. p - 1");
-        int[][] groups = {{7, 3, 2, 4}, {23, 11, 4, 9}, {0, 0, 0, 0}, {2147483579, 1073741789, 4, 9},
-            {2147483647, 331, 2255412, 2146777057}};
+        int[][] groups = {Deals.LEAST_GROUP, Deals.SMALL, {0, 0, 0, 0}, Deals.GREATEST_Q, Deals.GREATEST_P};
         for (int[] group : groups) {
             int p = Deals.in(group).group(0);
             Deals.bounds("forge in " + p + " to", 1, p - 1, () -> Deals.advanced(begunWith(group, 2, 2, true), 2),
@@ -449,7 +449,7 @@ public final class BoundariesTest {
     }
 
     private static void answerParticipants() {
-        Checks.about("Promise 10: IllegalArgumentException when there is no participant i; NoSuchElementException when it has not");
+        Checks.about("Promise 10: no participant i, or it has not complained");
         for (int n = 2; n <= 7; n++) {
             for (int complaining = 1; complaining <= n; complaining++) {
                 for (int i : Deals.edges(1, n)) {

@@ -15,6 +15,12 @@ final class Deals {
     static final int LEAST = Integer.MIN_VALUE;
     static final int GREATEST = Integer.MAX_VALUE;
 
+    static final int[] USUAL = {2039, 1019, 4, 9};
+    static final int[] SMALL = {23, 11, 4, 9};
+    static final int[] LEAST_GROUP = {7, 3, 2, 4};
+    static final int[] GREATEST_P = {2147483647, 331, 2255412, 2146777057};
+    static final int[] GREATEST_Q = {2147483579, 1073741789, 4, 9};
+
     private Deals() {
     }
 
@@ -23,7 +29,7 @@ final class Deals {
     }
 
     static DealtSecret small() {
-        return new DealtSecret(23, 11, 4, 9);
+        return in(SMALL);
     }
 
     static DealtSecret usualAt(int stage) {
@@ -55,6 +61,15 @@ final class Deals {
         DealtSecret x = small();
         x.begin(n, t, true);
         return advanced(x, stage);
+    }
+
+    /** A blind deal of one participant, in stage 2: its share is (a, b), modulo q. */
+    static DealtSecret oneParticipant(int[] group, int a, int b) {
+        DealtSecret x = in(group);
+        x.begin(1, 1, true);
+        x.coefficient(0, a, b);
+        x.advance();
+        return x;
     }
 
     static DealtSecret advanced(DealtSecret x, int stage) {

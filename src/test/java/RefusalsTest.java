@@ -13,7 +13,7 @@ public final class RefusalsTest {
     private static final int Q = 11;
     private static final int LOG = 8;
 
-    private static final int MANNERS = 8;
+    private static final int MANNERS = 12;
     private static final int[] NOBODY = {Deals.LEAST, -1, 0, 6, 7, 8, Deals.GREATEST};
     private static final int[] NO_COEFFICIENT = {Deals.LEAST, -1, 3, 4, 5, 7, Deals.GREATEST};
     private static final int[] NO_ELEMENT = {Deals.LEAST, -1, 0, 23, 24, Deals.GREATEST};
@@ -78,7 +78,11 @@ public final class RefusalsTest {
         return x;
     }
 
-    /** Plays on to the end, in one of several manners, and tells every answer; some 420 calls at most. */
+    /**
+     * Plays on to the end and tells every answer, in some 420 calls at most. The manners: with or without
+     * asking who is corrupt, with or without accusing, and answering nobody, all, or all but 4, which was
+     * answered before if the stage is 4.
+     */
     private static String rest(DealtSecret x, boolean blind, int manner) {
         StringBuilder told = new StringBuilder(Deals.seen(x));
         for (int step = 0; step < 4; step++) {
@@ -90,7 +94,7 @@ public final class RefusalsTest {
                 if ((manner & 2) != 0) {
                     told.append(Checks.outcome(() -> x.accuse(one)));
                 }
-                if ((manner & 4) != 0) {
+                if (manner / 4 == 1 || manner / 4 == 2 && i != 4) {
                     told.append(Checks.outcome(() -> x.answer(one, u(one), v(one, blind))));
                 }
             }
@@ -177,9 +181,10 @@ public final class RefusalsTest {
     }
 
     private static void coefficient() {
-        Checks.about("Promise 4: IllegalStateException when the stage is not PREPARING; IllegalArgumentException when k is not");
+        Checks.about("Promise 4: IllegalStateException when the stage is not PREPARING");
         refusedElsewhere("coefficient", stage -> stage == 1, x -> set(x, 0, 1, 1));
         refusedElsewhere("coefficient", stage -> stage == 1, x -> set(x, 2, 1, 1));
+        Checks.about("Promise 4: IllegalArgumentException when k is not 0 .. t - 1");
         for (int k : NO_COEFFICIENT) {
             refused("coefficient " + k, stage -> stage == 1, Deals.ARGUMENT, x -> set(x, k, 1, 1));
         }
@@ -196,11 +201,12 @@ public final class RefusalsTest {
     }
 
     private static void tamper() {
-        Checks.about("Promise 6: IllegalStateException when the stage is not DEALT; IllegalArgumentException when there is no");
+        Checks.about("Promise 6: IllegalStateException when the stage is not DEALT");
         for (int i = 1; i <= 5; i++) {
             int one = i;
             refusedElsewhere("tamper " + i, stage -> stage == 2, x -> tampered(x, one));
         }
+        Checks.about("Promise 6: IllegalArgumentException when there is no participant i");
         for (int i : NOBODY) {
             refused("tamper " + i, stage -> stage == 2, Deals.ARGUMENT, x -> tampered(x, i));
         }
@@ -212,27 +218,31 @@ public final class RefusalsTest {
     }
 
     private static void forge() {
-        Checks.about("Promise 7: IllegalStateException when the stage is not DEALT; IllegalArgumentException when k is not or x not");
+        Checks.about("Promise 7: IllegalStateException when the stage is not DEALT");
         for (int k = 0; k < 3; k++) {
             int one = k;
             refusedElsewhere("forge " + k, stage -> stage == 2, x -> forged(x, one, 1));
             refusedElsewhere("forge " + k, stage -> stage == 2, x -> forged(x, one, 22));
-            for (int element : NO_ELEMENT) {
-                refused("forge " + k + " " + element, stage -> stage == 2, Deals.ARGUMENT, x -> forged(x, one, element));
-            }
         }
+        Checks.about("Promise 7: IllegalArgumentException when k is not 0 .. t - 1");
         for (int k : NO_COEFFICIENT) {
             refused("forge " + k, stage -> stage == 2, Deals.ARGUMENT, x -> forged(x, k, 1));
             refused("forge " + k + " 0", stage -> stage == 2, Deals.ARGUMENT, x -> forged(x, k, 0));
         }
+        Checks.about("Promise 7: IllegalArgumentException when x is not 1 .. p - 1");
+        for (int element : NO_ELEMENT) {
+            refused("forge 0 " + element, stage -> stage == 2, Deals.ARGUMENT, x -> forged(x, 0, element));
+            refused("forge 2 " + element, stage -> stage == 2, Deals.ARGUMENT, x -> forged(x, 2, element));
+        }
     }
 
     private static void corrupt() {
-        Checks.about("Promise 8: IllegalStateException when the stage is not PREPARING or DEALT; IllegalArgumentException");
+        Checks.about("Promise 8: IllegalStateException when the stage is not PREPARING or DEALT");
         for (int i = 1; i <= 5; i++) {
             int one = i;
             refusedElsewhere("corrupt " + i, stage -> stage == 1 || stage == 2, x -> x.corrupt(one));
         }
+        Checks.about("Promise 8: IllegalArgumentException when there is no participant i");
         for (int i : NOBODY) {
             refused("corrupt " + i, stage -> stage == 1 || stage == 2, Deals.ARGUMENT, x -> x.corrupt(i));
         }
@@ -242,11 +252,12 @@ public final class RefusalsTest {
     }
 
     private static void accuse() {
-        Checks.about("Promise 9: IllegalStateException when the stage is not COMPLAINING; IllegalArgumentException");
+        Checks.about("Promise 9: IllegalStateException when the stage is not COMPLAINING");
         for (int i = 1; i <= 5; i++) {
             int one = i;
             refusedElsewhere("accuse " + i, stage -> stage == 3, x -> x.accuse(one));
         }
+        Checks.about("Promise 9: IllegalArgumentException when there is no participant i");
         for (int i : NOBODY) {
             refused("accuse " + i, stage -> stage == 3, Deals.ARGUMENT, x -> x.accuse(i));
         }
@@ -258,26 +269,29 @@ public final class RefusalsTest {
     }
 
     private static void answer() {
-        Checks.about("Promise 10: IllegalStateException when the stage is not ANSWERING; IllegalArgumentException; NoSuchElement");
+        Checks.about("Promise 10: IllegalStateException when the stage is not ANSWERING");
         for (int i : new int[] {2, 4}) {
             refusedElsewhere("answer " + i, stage -> stage == 4, x -> x.answer(i, u(i), v(i, true)));
             refusedElsewhere("answer " + i, stage -> stage == 4, x -> x.answer(i, 0, 0));
         }
+        Checks.about("Promise 10: NoSuchElementException when it has not complained");
         for (int i : new int[] {1, 3, 5}) {
             refused("answer " + i, stage -> stage == 4, Deals.MISSING, x -> x.answer(i, u(i), v(i, true)));
             refused("answer " + i, stage -> stage == 4, Deals.MISSING, x -> x.answer(i, 0, 0));
         }
+        Checks.about("Promise 10: IllegalArgumentException when there is no participant i");
         for (int i : NOBODY) {
             refused("answer " + i, stage -> stage == 4, Deals.ARGUMENT, x -> x.answer(i, 1, 1));
         }
     }
 
     private static void open() {
-        Checks.about("Promise 11: IllegalStateException when the stage is not ACCEPTED; IllegalArgumentException");
+        Checks.about("Promise 11: IllegalStateException when the stage is not ACCEPTED");
         for (int i = 1; i <= 5; i++) {
             int one = i;
             refusedElsewhere("open " + i, stage -> stage == 5, x -> x.open(one));
         }
+        Checks.about("Promise 11: IllegalArgumentException when there is no participant i");
         for (int i : NOBODY) {
             refused("open " + i, stage -> stage == 5, Deals.ARGUMENT, x -> x.open(i));
         }
@@ -301,8 +315,9 @@ public final class RefusalsTest {
     }
 
     private static void secret() {
-        Checks.about("Promise 13: IllegalStateException when the stage is not ACCEPTED; NoSuchElementException when fewer");
+        Checks.about("Promise 13: NoSuchElementException when fewer than t have one");
         refused("secret with two of three", stage -> stage == 5, Deals.MISSING, DealtSecret::secret);
+        Checks.about("Promise 13: IllegalStateException when the stage is not ACCEPTED");
         refusedElsewhere("secret after one more", stage -> stage == 5, x -> {
             if (x.stage() == 5) {
                 x.open(5);
@@ -312,8 +327,9 @@ public final class RefusalsTest {
     }
 
     private static void relation() {
-        Checks.about("Promise 14: IllegalStateException when the stage is not ACCEPTED; NoSuchElementException when there is none");
+        Checks.about("Promise 14: IllegalStateException when the stage is not ACCEPTED");
         refusedElsewhere("relation", stage -> stage == 5, DealtSecret::relation);
+        Checks.about("Promise 14: NoSuchElementException when there is none");
         for (int stage = 0; stage <= 6; stage++) {
             Deals.refusedAt(stage, "relation", stage == 5 ? Deals.MISSING : Deals.STATE, DealtSecret::relation);
         }
